@@ -364,7 +364,7 @@ public final class WordEvidence {
         private final int[] ids = new int[LOG_ROOM];
         private final int[] blocks = new int[LOG_ROOM];
         // null where the change took the document away
-        private final Document[] put = new Document[LOG_ROOM];
+        private final Document[] placed = new Document[LOG_ROOM];
         private int changes = 0;
         int pendingBlocks = 0;
 
@@ -375,7 +375,7 @@ public final class WordEvidence {
         void write(int id, Document document, int takes) {
             if (changes < LOG_ROOM) {
                 ids[changes] = id;
-                put[changes] = document;
+                placed[changes] = document;
                 blocks[changes] = takes;
                 changes++;
                 pendingBlocks += takes;
@@ -387,7 +387,7 @@ public final class WordEvidence {
             int left = reached;
             int done = 0;
             while (done < changes && blocks[done] <= left) {
-                shelf.put(ids[done], put[done]);
+                shelf.put(ids[done], placed[done]);
                 left -= blocks[done];
                 done++;
             }
@@ -437,16 +437,12 @@ public final class WordEvidence {
         private int placeOf(int c) {
             int before = 0;
             for (int other = 0; other < classes; other++) {
-                if (other != c && standsBefore(other, c)) {
+                int sign = signOf(other, c);
+                if (sign > 0 || sign == 0 && other < c) {
                     before++;
                 }
             }
             return before;
-        }
-
-        private boolean standsBefore(int a, int b) {
-            int sign = signOf(a, b);
-            return sign > 0 || sign == 0 && a < b;
         }
 
         /** Multiplies each side by the other's denominators, so that whole numbers are compared. */
