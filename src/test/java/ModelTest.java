@@ -10,8 +10,9 @@ import java.util.TreeMap;
 /** Long runs of calls, the same each time, against a model that is written from the document with the Java library. */
 public final class ModelTest {
     private static final int RUNS = 3000;
-    private static final int CALLS = 512;
-    private static final String[] ALPHABETS = {"ab ", "aAbB19 .", "abcdefghijklmnopqrstuvwxyz0123456789 ,", "aaaaaaaB ", "a "};
+    private static final String[] ALPHABETS = {
+        "ab ", "aAbB19 .", "abcdefghijklmnopqrstuvwxyz0123456789 ,", "aaaaaaaB ", "a ",
+    };
     private static final Check CHECK = new Check();
 
     /** The document's state and answers, told with texts, lists and fractions. */
@@ -194,7 +195,7 @@ public final class ModelTest {
     private final Random random;
     private final String alphabet;
     private final Model model;
-    private final WordEvidence program;
+    private final Counted program;
     private String at = "";
 
     private ModelTest(int run) {
@@ -202,7 +203,7 @@ public final class ModelTest {
         alphabet = ALPHABETS[random.nextInt(ALPHABETS.length)];
         int classes = random.nextInt(8) - 1;
         model = new Model(classes);
-        program = new WordEvidence(classes);
+        program = new Counted(classes);
     }
 
     private void due(String call, int got, int want) {
@@ -221,12 +222,13 @@ public final class ModelTest {
         due("key(" + (int) c + ")", program.key(c) ? 1 : 0, model.key(c));
     }
 
-    private int keys() {
-        int many = random.nextInt(6) == 0 ? 42 : 1 + random.nextInt(14);
+    private void keys() {
+        int wanted = random.nextInt(6) == 0 ? 42 : 1 + random.nextInt(14);
+        int many = Math.min(wanted, Counted.MOST_CALLS - program.calls());
         for (int i = 0; i < many; i++) {
-            key(random.nextInt(150) == 0 ? (char) random.nextInt(300) : alphabet.charAt(random.nextInt(alphabet.length())));
+            char ordinary = alphabet.charAt(random.nextInt(alphabet.length()));
+            key(random.nextInt(150) == 0 ? (char) random.nextInt(300) : ordinary);
         }
-        return many;
     }
 
     private void change(int kind) {
@@ -238,11 +240,7 @@ public final class ModelTest {
             case 1, 2, 3 -> due("train(" + id + ", " + label + ")", program.train(id, label), model.train(id, label));
             case 4 -> due("untrain(" + id + ")", program.untrain(id), model.untrain(id));
             case 5 -> due("sync()", program.sync(), model.sync());
-            default -> {
-                if (random.nextInt(3) == 0) {
-                    due("fail(" + blocks + ")", program.fail(blocks), model.fail(blocks));
-                }
-            }
+            default -> due("fail(" + blocks + ")", program.fail(blocks), model.fail(blocks));
         }
     }
 
@@ -268,13 +266,14 @@ public final class ModelTest {
     }
 
     private void run(int run) {
-        for (int call = 0; call < CALLS; call++) {
-            at = "run " + run + " call " + call + ": ";
+        while (program.calls() < Counted.MOST_CALLS) {
+            at = "run " + run + " call " + (program.calls() + 1) + ": ";
             int what = random.nextInt(10);
             if (what == 0) {
-                call += keys();
+                keys();
             } else if (what < 5) {
-                change(random.nextInt(7));
+                // a failure more seldom than the others, or few documents would ever stand together
+                change(random.nextInt(19) / 3);
             } else {
                 ask(random.nextInt(11));
             }

@@ -13,15 +13,15 @@ public final class PromiseTest {
         CHECK.due(call, got, want);
     }
 
-    private static WordEvidence withText(String text) {
-        WordEvidence x = new WordEvidence(4);
-        Check.type(x, text);
+    private static Counted withText(String text) {
+        Counted x = new Counted(4);
+        x.type(text);
         return x;
     }
 
     /** C as it shows from outside: the classes that total knows. */
     private static int classesOf(int asked) {
-        WordEvidence x = new WordEvidence(asked);
+        Counted x = new Counted(asked);
         int found = 0;
         for (int c = 0; c < 10; c++) {
             if (x.total(c) != WordEvidence.NONE) {
@@ -40,7 +40,7 @@ public final class PromiseTest {
         due("1: C of 5", classesOf(5), 4);
         due("1: C of the least int", classesOf(LEAST), 2);
         due("1: C of the greatest int", classesOf(GREATEST), 4);
-        WordEvidence x = new WordEvidence(3);
+        Counted x = new Counted(3);
         due("1: documents(-1)", x.documents(-1), 0);
         due("1: pending()", x.pending(), 0);
         due("1: words()", x.words(), 0);
@@ -53,9 +53,9 @@ public final class PromiseTest {
 
     private static void promise2Key() {
         for (int code = 0; code < 65536; code++) {
-            due("2: key of code " + code, new WordEvidence(2).key((char) code), code >= 32 && code <= 126);
+            due("2: key of code " + code, new Counted(2).key((char) code), code >= 32 && code <= 126);
         }
-        WordEvidence x = new WordEvidence(2);
+        Counted x = new Counted(2);
         due("2: a refused key", x.key((char) 31), false);
         due("2: a refused key", x.key((char) 127), false);
         due("2: refused keys leave the text", x.clear(), 0);
@@ -71,7 +71,7 @@ public final class PromiseTest {
     }
 
     private static void promise3Clear() {
-        WordEvidence x = withText("one two!");
+        Counted x = withText("one two!");
         due("3: clear()", x.clear(), 8);
         due("3: words() after it", x.words(), 0);
         due("3: letter(0, 0) after it", x.letter(0, 0), -1);
@@ -104,7 +104,7 @@ public final class PromiseTest {
     }
 
     private static void promise5Letter() {
-        WordEvidence x = withText("-aZ09 ABCDEFGHIJ,abcdefgh z");
+        Counted x = withText("-aZ09 ABCDEFGHIJ,abcdefgh z");
         due("5: letter(0, 0)", x.letter(0, 0), 'a');
         due("5: letter(0, 1)", x.letter(0, 1), 'z');
         due("5: letter(0, 2)", x.letter(0, 2), '0');
@@ -134,21 +134,21 @@ public final class PromiseTest {
         String[] texts = {"", "a", "a a a a", "a b c d e", "a b c d e f g h", "a b c d e f g h i", TWENTY_WORDS};
         int[] blocks = {1, 2, 2, 3, 3, 4, 6};
         for (int i = 0; i < texts.length; i++) {
-            WordEvidence x = new WordEvidence(4);
-            due("6: train of " + texts[i], Check.trainText(x, 31, 3, texts[i]), blocks[i]);
+            Counted x = new Counted(4);
+            due("6: train of " + texts[i], x.trainText(31, 3, texts[i]), blocks[i]);
             due("6: blocks of " + texts[i], x.pending(), blocks[i]);
             due("6: class of " + texts[i], x.label(31), 3);
         }
-        WordEvidence x = withText("Tea tea coffee");
+        Counted x = withText("Tea tea coffee");
         due("6: train(0, 0)", x.train(0, 0), 2);
         due("6: the text stays", x.clear(), 14);
-        Check.type(x, "tea");
+        x.type("tea");
         due("6: the document keeps its words", x.count(0, 0), 2);
         trainIsRefused();
     }
 
     private static void trainIsRefused() {
-        WordEvidence x = new WordEvidence(3);
+        Counted x = new Counted(3);
         int[][] wrong = {{-1, 0}, {32, 0}, {LEAST, 0}, {GREATEST, 0}, {0, -1}, {0, 3}, {0, LEAST}, {0, GREATEST}};
         for (int[] pair : wrong) {
             due("6: train(" + pair[0] + ", " + pair[1] + ")", x.train(pair[0], pair[1]), -1);
@@ -168,25 +168,25 @@ public final class PromiseTest {
         }
         due("6: a full log", x.pending(), 24);
         due("6: MANY before FULL", x.train(10, 0), -4);
-        x = new WordEvidence(2);
+        x = new Counted(2);
         for (int id = 0; id < 3; id++) {
-            Check.trainText(x, id, 0, TWENTY_WORDS);
+            x.trainText(id, 0, TWENTY_WORDS);
         }
-        Check.trainText(x, 3, 0, "a");
-        due("6: six blocks where four are free", Check.trainText(x, 4, 1, TWENTY_WORDS), -5);
-        due("6: five blocks where four are free", Check.trainText(x, 4, 1, "a b c d e f g h i j k l m"), -5);
+        x.trainText(3, 0, "a");
+        due("6: six blocks where four are free", x.trainText(4, 1, TWENTY_WORDS), -5);
+        due("6: five blocks where four are free", x.trainText(4, 1, "a b c d e f g h i j k l m"), -5);
         due("6: FULL writes nothing", x.pending(), 20);
         due("6: FULL trains nothing", x.label(4), -1);
-        due("6: four blocks where four are free", Check.trainText(x, 4, 1, "a b c d e f g h i j k l"), 4);
+        due("6: four blocks where four are free", x.trainText(4, 1, "a b c d e f g h i j k l"), 4);
         due("6: PRESENT before FULL", x.train(4, 1), -2);
         due("6: NONE before FULL", x.train(5, 2), -1);
-        due("6: no block free", Check.trainText(x, 5, 1, ""), -5);
+        due("6: no block free", x.trainText(5, 1, ""), -5);
     }
 
     private static void promise7Untrain() {
-        WordEvidence x = new WordEvidence(4);
-        Check.trainText(x, 0, 3, "a b");
-        Check.trainText(x, 31, 1, "a");
+        Counted x = new Counted(4);
+        x.trainText(0, 3, "a b");
+        x.trainText(31, 1, "a");
         due("7: untrain(-1)", x.untrain(-1), -1);
         due("7: untrain(32)", x.untrain(32), -1);
         due("7: untrain(least)", x.untrain(LEAST), -1);
@@ -201,9 +201,9 @@ public final class PromiseTest {
         due("7: untrain(0) again", x.untrain(0), -3);
         due("7: the id is free", x.train(0, 2), 2);
         due("7: untrain(31)", x.untrain(31), 1);
-        x = new WordEvidence(2);
+        x = new Counted(2);
         for (int id = 0; id < 4; id++) {
-            Check.trainText(x, id, 1, TWENTY_WORDS);
+            x.trainText(id, 1, TWENTY_WORDS);
         }
         due("7: a full log", x.untrain(2), -5);
         due("7: FULL changes nothing", x.label(2), 1);
@@ -214,10 +214,10 @@ public final class PromiseTest {
     }
 
     private static void promise8Sync() {
-        WordEvidence x = new WordEvidence(2);
+        Counted x = new Counted(2);
         due("8: sync of nothing", x.sync(), 0);
-        Check.trainText(x, 1, 0, "a b c d e");
-        Check.trainText(x, 2, 1, "");
+        x.trainText(1, 0, "a b c d e");
+        x.trainText(2, 1, "");
         due("8: sync()", x.sync(), 4);
         due("8: pending() after it", x.pending(), 0);
         due("8: sync() again", x.sync(), 0);
@@ -230,13 +230,13 @@ public final class PromiseTest {
     }
 
     /** Trains of 2, 1, 3 blocks and an untraining of the first, on a safe document 9. */
-    private static WordEvidence beforeFailure() {
-        WordEvidence x = new WordEvidence(3);
-        Check.trainText(x, 9, 2, "safe");
+    private static Counted beforeFailure() {
+        Counted x = new Counted(3);
+        x.trainText(9, 2, "safe");
         x.sync();
-        Check.trainText(x, 0, 0, "tea");
-        Check.trainText(x, 1, 1, "");
-        Check.trainText(x, 2, 2, "a b c d e");
+        x.trainText(0, 0, "tea");
+        x.trainText(1, 1, "");
+        x.trainText(2, 2, "a b c d e");
         x.untrain(0);
         return x;
     }
@@ -244,7 +244,7 @@ public final class PromiseTest {
     private static void promise9Fail() {
         int[] lost = {4, 4, 3, 2, 2, 2, 1, 0, 0};
         for (int blocks = 0; blocks < lost.length; blocks++) {
-            WordEvidence x = beforeFailure();
+            Counted x = beforeFailure();
             String call = "9: fail(" + blocks + ")";
             due(call, x.fail(blocks), lost[blocks]);
             due(call + " document 0", x.label(0), blocks >= 2 && blocks < 7 ? 0 : -1);
@@ -264,20 +264,20 @@ public final class PromiseTest {
     }
 
     private static void failBringsBack() {
-        WordEvidence x = beforeFailure();
+        Counted x = beforeFailure();
         x.untrain(9);
-        Check.trainText(x, 9, 0, "other other");
+        x.trainText(9, 0, "other other");
         due("9: the id's document before", x.label(9), 0);
         due("9: a complete change behind a lost one is lost", x.fail(5), 4);
         due("9: the safe document is back", x.label(9), 2);
         due("9: the text stays", x.words(), 2);
-        Check.type(x, "other safe");
+        x.type("other safe");
         due("9: with its words", x.count(2, 1), 1);
         due("9: not with the lost ones", x.count(0, 0), 0);
         due("9: the log has its room again", x.pending(), 0);
         for (int i = 0; i < 12; i++) {
             x.untrain(9);
-            Check.trainText(x, 9, 1, "");
+            x.trainText(9, 1, "");
         }
         due("9: all of it", x.pending(), 24);
         due("9: a change after a change of one id", x.fail(23), 1);
@@ -285,11 +285,11 @@ public final class PromiseTest {
     }
 
     private static void promise10Pending() {
-        WordEvidence x = new WordEvidence(2);
+        Counted x = new Counted(2);
         due("10: pending() at first", x.pending(), 0);
-        Check.trainText(x, 0, 0, "a b c d");
+        x.trainText(0, 0, "a b c d");
         due("10: after a training", x.pending(), 2);
-        Check.trainText(x, 1, 0, "a b c d e");
+        x.trainText(1, 0, "a b c d e");
         due("10: after another", x.pending(), 5);
         x.untrain(0);
         due("10: after an untraining", x.pending(), 6);
@@ -302,10 +302,10 @@ public final class PromiseTest {
     }
 
     private static void promise11Documents() {
-        WordEvidence x = new WordEvidence(3);
-        Check.trainText(x, 4, 2, "a");
-        Check.trainText(x, 5, 2, "");
-        Check.trainText(x, 31, 0, "a");
+        Counted x = new Counted(3);
+        x.trainText(4, 2, "a");
+        x.trainText(5, 2, "");
+        x.trainText(31, 0, "a");
         due("11: documents(-1)", x.documents(-1), 3);
         due("11: documents(0)", x.documents(0), 1);
         due("11: documents(1)", x.documents(1), 0);
@@ -317,10 +317,10 @@ public final class PromiseTest {
     }
 
     private static void promise12Total() {
-        WordEvidence x = new WordEvidence(3);
-        Check.trainText(x, 4, 2, "a a b");
-        Check.trainText(x, 5, 2, "a");
-        Check.trainText(x, 6, 0, "c d");
+        Counted x = new Counted(3);
+        x.trainText(4, 2, "a a b");
+        x.trainText(5, 2, "a");
+        x.trainText(6, 0, "c d");
         due("12: total(0)", x.total(0), 2);
         due("12: total(1)", x.total(1), 0);
         due("12: total(2)", x.total(2), 4);
@@ -333,11 +333,11 @@ public final class PromiseTest {
     }
 
     private static void promise13Count() {
-        WordEvidence x = new WordEvidence(3);
-        Check.trainText(x, 4, 2, "a A b abcdefghX");
-        Check.trainText(x, 5, 2, "a ab");
-        Check.trainText(x, 6, 0, "b");
-        Check.type(x, "A b ABCDEFGHYZ c abcdefg");
+        Counted x = new Counted(3);
+        x.trainText(4, 2, "a A b abcdefghX");
+        x.trainText(5, 2, "a ab");
+        x.trainText(6, 0, "b");
+        x.type("A b ABCDEFGHYZ c abcdefg");
         due("13: a in 2", x.count(2, 0), 3);
         due("13: a in 0", x.count(0, 0), 0);
         due("13: b in 2", x.count(2, 1), 1);
@@ -357,13 +357,13 @@ public final class PromiseTest {
     }
 
     private static void promise14Vocabulary() {
-        WordEvidence x = new WordEvidence(2);
+        Counted x = new Counted(2);
         due("14: at first", x.vocabulary(), 0);
-        Check.type(x, "not learned");
+        x.type("not learned");
         due("14: the text does not count", x.vocabulary(), 0);
-        Check.trainText(x, 1, 0, "a b A b");
+        x.trainText(1, 0, "a b A b");
         due("14: of one document", x.vocabulary(), 2);
-        Check.trainText(x, 0, 1, "b c abcdefgh1 abcdefgh2");
+        x.trainText(0, 1, "b c abcdefgh1 abcdefgh2");
         due("14: of two", x.vocabulary(), 4);
         x.untrain(1);
         due("14: of the other", x.vocabulary(), 3);
@@ -375,7 +375,7 @@ public final class PromiseTest {
             for (int k = 0; k < 13; k++) {
                 text.append((char) ('a' + id)).append((char) ('a' + k)).append('.');
             }
-            Check.trainText(x, id, id % 2, text.toString());
+            x.trainText(id, id % 2, text.toString());
             x.sync();
             different += 13;
             due("14: of many", x.vocabulary(), different);
@@ -383,9 +383,9 @@ public final class PromiseTest {
     }
 
     private static void promise15Label() {
-        WordEvidence x = new WordEvidence(4);
-        Check.trainText(x, 0, 3, "a");
-        Check.trainText(x, 31, 0, "a");
+        Counted x = new Counted(4);
+        x.trainText(0, 3, "a");
+        x.trainText(31, 0, "a");
         due("15: label(0)", x.label(0), 3);
         due("15: label(31)", x.label(31), 0);
         due("15: label(1)", x.label(1), -1);
@@ -398,33 +398,33 @@ public final class PromiseTest {
     }
 
     private static void promise16Classify() {
-        WordEvidence x = withText("tea");
+        Counted x = withText("tea");
         due("16: without documents", x.classify(), -1);
-        Check.trainText(x, 0, 2, "tea cup");
+        x.trainText(0, 2, "tea cup");
         due("16: of one", x.classify(), 2);
-        Check.trainText(x, 1, 1, "rain sky");
-        Check.type(x, "Tea");
+        x.trainText(1, 1, "rain sky");
+        x.type("Tea");
         due("16: by the word", x.classify(), 2);
-        Check.type(x, "SKY tea sky");
+        x.type("SKY tea sky");
         due("16: by each time it stands there", x.classify(), 1);
-        Check.type(x, "sky tea");
+        x.type("sky tea");
         due("16: of equal ones the lesser", x.classify(), 1);
-        Check.type(x, "unknown");
+        x.type("unknown");
         due("16: of equal ones the lesser", x.classify(), 1);
-        Check.trainText(x, 2, 2, "");
+        x.trainText(2, 2, "");
         due("16: by the documents alone", x.classify(), 2);
         x.fail(0);
         due("16: without documents again", x.classify(), -1);
     }
 
     private static void promise17Order() {
-        WordEvidence x = withText("tea");
+        Counted x = withText("tea");
         for (int k = 0; k < 4; k++) {
             due("17: order(" + k + ") without documents", x.order(k), k);
         }
-        Check.trainText(x, 0, 3, "tea tea");
-        Check.trainText(x, 1, 1, "tea sky");
-        Check.type(x, "tea");
+        x.trainText(0, 3, "tea tea");
+        x.trainText(1, 1, "tea sky");
+        x.type("tea");
         int[] classes = {3, 1, 0, 2};
         for (int k = 0; k < 4; k++) {
             due("17: order(" + k + ")", x.order(k), classes[k]);
@@ -433,19 +433,19 @@ public final class PromiseTest {
         due("17: order(-1)", x.order(-1), -1);
         due("17: order(least)", x.order(LEAST), -1);
         due("17: order(greatest)", x.order(GREATEST), -1);
-        WordEvidence two = new WordEvidence(2);
-        Check.trainText(two, 0, 1, "a");
+        Counted two = new Counted(2);
+        two.trainText(0, 1, "a");
         due("17: order(0) of two", two.order(0), 1);
         due("17: order(1) of two", two.order(1), 0);
         due("17: order(2) of two", two.order(2), -1);
     }
 
     private static void promise18Compare() {
-        WordEvidence x = new WordEvidence(3);
+        Counted x = new Counted(3);
         due("18: without documents", x.compare(0, 1), 0);
-        Check.trainText(x, 0, 0, "a b");
-        Check.trainText(x, 1, 1, "a c d e f");
-        Check.type(x, "a");
+        x.trainText(0, 0, "a b");
+        x.trainText(1, 1, "a c d e f");
+        x.type("a");
         due("18: compare(0, 1)", x.compare(0, 1), 1);
         due("18: compare(1, 0)", x.compare(1, 0), -1);
         due("18: compare(1, 1)", x.compare(1, 1), 0);
@@ -458,19 +458,19 @@ public final class PromiseTest {
             due("18: compare(" + c + ", 0)", x.compare(c, 0), -2);
             due("18: compare(" + c + ", " + c + ")", x.compare(c, c), -2);
         }
-        WordEvidence even = new WordEvidence(2);
-        Check.trainText(even, 0, 0, "a a");
-        Check.trainText(even, 1, 0, "b b");
-        Check.trainText(even, 2, 1, "c");
-        Check.type(even, "a");
+        Counted even = new Counted(2);
+        even.trainText(0, 0, "a a");
+        even.trainText(1, 0, "b b");
+        even.trainText(2, 1, "c");
+        even.type("a");
         due("18: 2 * 3/8 against 1 * 1/5", even.compare(0, 1), 1);
-        Check.type(even, "c c c");
+        even.type("c c c");
         due("18: 2 * 1/8^3 against 1 * 2^3/5^3", even.compare(0, 1), -1);
-        even = new WordEvidence(2);
-        Check.trainText(even, 0, 0, "a");
-        Check.trainText(even, 1, 0, "a");
-        Check.trainText(even, 2, 1, "");
-        Check.type(even, "z");
+        even = new Counted(2);
+        even.trainText(0, 0, "a");
+        even.trainText(1, 0, "a");
+        even.trainText(2, 1, "");
+        even.type("z");
         due("18: 2 * 1/4 against 1 * 1/2", even.compare(0, 1), 0);
         due("18: 1 * 1/2 against 2 * 1/4", even.compare(1, 0), 0);
         comparesExactly();
@@ -478,29 +478,28 @@ public final class PromiseTest {
 
     /** Chances that a long or a double can't tell apart, or overflows on. */
     private static void comparesExactly() {
-        WordEvidence x = new WordEvidence(4);
+        Counted x = withText(TWENTY_WORDS);
         for (int id = 0; id < 10; id++) {
-            Check.trainText(x, id, id < 5 ? 0 : 1, TWENTY_WORDS);
+            x.train(id, id < 5 ? 0 : 1);
             x.sync();
         }
-        Check.type(x, TWENTY_WORDS);
         due("18: twenty words, the same", x.compare(0, 1), 0);
         x.untrain(9);
-        Check.trainText(x, 9, 1, "a b c d e f g h i j k l m n o p q r s s");
-        Check.type(x, TWENTY_WORDS);
+        x.trainText(9, 1, "a b c d e f g h i j k l m n o p q r s s");
+        x.type(TWENTY_WORDS);
         due("18: twenty words, one other", x.compare(0, 1), 1);
         due("18: twenty words, one other", x.compare(1, 0), -1);
-        x = new WordEvidence(2);
+        x = withText("a a a a a a a a a a a a a a a a a a a a");
         for (int id = 0; id < 10; id++) {
-            Check.trainText(x, id, 0, "a a a a a a a a a a a a a a a a a a a a");
+            x.train(id, 0);
             x.sync();
         }
         due("18: 10 * 201^20 / 202^20 against 0", x.compare(0, 1), 1);
         x.untrain(9);
-        Check.trainText(x, 9, 1, "");
-        Check.type(x, "a a a a a a a a a a a a a a a a a a a a");
+        x.trainText(9, 1, "");
+        x.type("a a a a a a a a a a a a a a a a a a a a");
         due("18: 9 * 181^20 / 182^20 against 1 / 2^20", x.compare(0, 1), 1);
-        Check.type(x, "b b b b b b b b b b b b b b b b b b b b");
+        x.type("b b b b b b b b b b b b b b b b b b b b");
         due("18: 9 / 182^20 against 1 / 2^20", x.compare(0, 1), -1);
     }
 
