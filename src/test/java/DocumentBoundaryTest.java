@@ -100,32 +100,42 @@ public final class DocumentBoundaryTest {
 
     private static void changesNothing(String call, Supplier<Counted> state, Consumer<Counted> refused) {
         for (int reached = 0; reached <= 24; reached += 6) {
-            Counted x = state.get();
-            Counted twin = state.get();
+            Counted x = withUnfinishedText(state);
+            Counted twin = withUnfinishedText(state);
             refused.accept(x);
             due(call + ", then all the questions", Snapshot.of(x), Snapshot.of(twin));
             String failure = call + ", then fail(" + reached + ")";
             due(failure, x.fail(reached), twin.fail(reached));
-            due(failure + ", then all the questions", Snapshot.of(x), Snapshot.of(twin));
-            due(call + ", then clear()", x.clear(), twin.clear());
+            x.key('p');
+            twin.key('p');
+            due(failure + ", then a key and all the questions", Snapshot.of(x), Snapshot.of(twin));
+            due(failure + ", then a key and clear()", x.clear(), twin.clear());
         }
+    }
+
+    /** The text ends within a run, so that it shows when a call parts it. */
+    private static Counted withUnfinishedText(Supplier<Counted> state) {
+        Counted x = state.get();
+        x.type("tea cu");
+        return x;
     }
 
     private static void aTrainingThatIsRefusedChangesNothing() {
         changesNothing("train(32, 0), NONE", States::withChanges, x -> due("train", x.train(32, 0), NONE));
         changesNothing("train(4, 4), NONE", States::withChanges, x -> due("train", x.train(4, 4), NONE));
-        changesNothing("train(3, 0), PRESENT", States::withChanges,
-                x -> due("train", x.train(3, 0), PRESENT));
-        changesNothing("train(10, 0), MANY", () -> States.withDocuments(10), x -> due("train", x.train(10, 0), MANY));
-        changesNothing("train(10, 0), FULL", () -> States.withPending(24), x -> due("train", x.train(10, 0), FULL));
+        changesNothing("train(3, 0), PRESENT", States::withChanges, x -> due("train", x.train(3, 0), PRESENT));
+        changesNothing("train(10, 0), MANY", States::withManyAndFull, x -> due("train", x.train(10, 0), MANY));
+        changesNothing("train(10, 0), MANY", () -> States.withPendingDocuments(10),
+                x -> due("train", x.train(10, 0), MANY));
+        changesNothing("train(10, 0), FULL", States::withFourTimesSix, x -> due("train", x.train(10, 0), FULL));
+        changesNothing("train(10, 0), FULL", () -> States.withPending(23), x -> due("train", x.train(10, 0), FULL));
     }
 
     private static void anUntrainingThatIsRefusedChangesNothing() {
         changesNothing("untrain(-1), NONE", States::withChanges, x -> due("untrain", x.untrain(-1), NONE));
-        changesNothing("untrain(9), ABSENT", States::withChanges,
-                x -> due("untrain", x.untrain(9), ABSENT));
-        changesNothing("untrain(8), FULL", States::withManyAndFull,
-                x -> due("untrain", x.untrain(8), FULL));
+        changesNothing("untrain(9), ABSENT", States::withChanges, x -> due("untrain", x.untrain(9), ABSENT));
+        changesNothing("untrain(8), FULL", States::withManyAndFull, x -> due("untrain", x.untrain(8), FULL));
+        changesNothing("untrain(3), FULL", States::withFourTimesSix, x -> due("untrain", x.untrain(3), FULL));
     }
 
     private static void aQuestionWithoutAnAnswerChangesNothing() {

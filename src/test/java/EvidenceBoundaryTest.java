@@ -148,31 +148,48 @@ public final class EvidenceBoundaryTest {
         Counted x = withClasses("a a b b b b c c d d d e f f", "a a a a a a b b b c c c c d d e e f");
         x.type("b d e e e e e e e e e z z z z z z z");
         dueCompare("greater by less than a millionth", x, 1);
-        x = withClasses("a a a a b b b b b c e e e e e e f f", "a a a a b b b b d d d e e f");
-        x.type("a b b b c d d e f f f f f f f f f");
-        dueCompare("less by less than a millionth", x, -1);
+        x = new Counted(2);
+        trainLetters(x, 0, 0, "aaaaaaaaaaaaaaaaaddddefffffffgghhhhhhhhhhhhhhhhiiiiiiijjjjjjjlmmmmrrr");
+        trainLetters(x, 4, 1, "abbcccccccccccdeeeeeeeeeeeeffffgggggghijkkkkkkkknooo");
+        x.type("a f f f f g g g g h n");
+        dueCompare("less by less than a ten thousand millionth", x, -1);
     }
 
-    /** The products that are compared here have up to 277 bits. */
+    /** The letters are words, twenty of them a document, and the rest the last one. */
+    private static void trainLetters(Counted x, int firstId, int label, String letters) {
+        int id = firstId;
+        for (int from = 0; from < letters.length(); from += 20) {
+            String words = letters.substring(from, Math.min(from + 20, letters.length()));
+            x.trainText(id, label, String.join(" ", words.split("")));
+            x.sync();
+            id++;
+        }
+    }
+
+    /** The products that are compared here have up to 270 bits, and those of both classes nearly as many. */
     private static void theGreatestProductsAreExact() {
-        Counted x = new Counted(2);
-        x.keys(TWENTY_TIMES_A);
-        for (int id = 0; id < 5; id++) {
-            x.train(id, 0);
-            x.sync();
+        String lastDocument = "a ".repeat(19) + "b";
+        for (int many = 0; many <= 20; many++) {
+            Counted x = new Counted(2);
+            x.keys(TWENTY_TIMES_A);
+            for (int id = 0; id < 9; id++) {
+                x.train(id, id < 5 ? 0 : 1);
+                x.sync();
+            }
+            x.trainText(9, 1, lastDocument);
+            x.type("a ".repeat(many) + "b ".repeat(20 - many));
+            String chances = "101^" + many + " against 100^" + many + " * 2^" + (20 - many);
+            dueCompare(chances + ", both times 5 / 103^20", x, many == 20 ? 1 : -1);
         }
-        String[] others = {"b c d e f g h i j k l m n o p q r s t u", "v w x y z 0 1 2 3 4 5 6 7 8 9 b c d e f"};
-        for (int id = 5; id < 10; id++) {
-            x.trainText(id, 1, others[id % 2]);
-            x.sync();
+    }
+
+    private static void eachOfTwentyWordsIsAFactor() {
+        for (int place = 0; place < 20; place++) {
+            Counted x = withClasses("a", "b");
+            x.type("z ".repeat(place) + "a " + "z ".repeat(19 - place));
+            due("words()", x.words(), 20);
+            dueCompare("word " + place + " alone decides", x, 1);
         }
-        due("vocabulary()", x.vocabulary(), 36);
-        x.type(TWENTY_TIMES_A);
-        dueCompare("5 * 101^20 / 137^20 against 5 / 137^20", x, 1);
-        x.untrain(9);
-        dueCompare("5 * 101^20 / 137^20 against 4 / 117^20", x, 1);
-        x.type("b b b b b b b b b b b b b b b b b b b b");
-        dueCompare("5 / 137^20 against 4 * 5^20 / 117^20", x, -1);
     }
 
     /** The words tie, so that the documents alone decide. */
@@ -528,6 +545,7 @@ public final class EvidenceBoundaryTest {
         test("Terms, CHANCE: an exact fraction, equal ones", EvidenceBoundaryTest::equalChancesOfOtherFactorsAreEqual);
         test("Terms, CHANCE: an exact fraction, near ones", EvidenceBoundaryTest::nearlyEqualChancesAreNotEqual);
         test("Terms, CHANCE: an exact fraction, the greatest", EvidenceBoundaryTest::theGreatestProductsAreExact);
+        test("Terms, CHANCE: for each word of the text, of twenty", EvidenceBoundaryTest::eachOfTwentyWordsIsAFactor);
         test("Terms, CHANCE: an exact fraction, twenty words", EvidenceBoundaryTest::twentyWordsThatTieAreEqual);
         test("Terms, ORDER: of equal ones the one with the lesser number first",
                 EvidenceBoundaryTest::ofEqualOnesTheLesserNumberIsFirst);

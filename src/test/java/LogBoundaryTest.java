@@ -251,11 +251,7 @@ public final class LogBoundaryTest {
         int[] reached = {0, 5, 6, 11, 12, 17, 18, 23, 24};
         int[] lost = {4, 4, 3, 3, 2, 2, 1, 1, 0};
         for (int i = 0; i < reached.length; i++) {
-            Counted x = new Counted(2);
-            x.keys(States.TWENTY_WORDS);
-            for (int id = 0; id < 4; id++) {
-                x.train(id, 0);
-            }
+            Counted x = States.withFourTimesSix();
             due("fail(" + reached[i] + ")", x.fail(reached[i]), lost[i]);
             due("documents(-1) after fail(" + reached[i] + ")", x.documents(-1), 4 - lost[i]);
         }

@@ -22,12 +22,18 @@ final class States {
         return x;
     }
 
-    /** Documents 0, 1, .. of class 1, without words and safe; no block is pending. */
-    static Counted withDocuments(int many) {
+    /** Documents 0, 1, .. of class 1, without words, each of a pending block. */
+    static Counted withPendingDocuments(int many) {
         Counted x = new Counted(4);
         for (int id = 0; id < many; id++) {
             x.train(id, 1);
         }
+        return x;
+    }
+
+    /** The same, but safe; no block is pending. */
+    static Counted withDocuments(int many) {
+        Counted x = withPendingDocuments(many);
         x.sync();
         return x;
     }
@@ -38,6 +44,16 @@ final class States {
         for (int i = 0; i < 12; i++) {
             x.untrain(9);
             x.train(9, 1);
+        }
+        return x;
+    }
+
+    /** Documents 0 .. 3, one of each class, of 6 blocks each; 24 blocks are pending, and nothing is safe. */
+    static Counted withFourTimesSix() {
+        Counted x = new Counted(4);
+        x.keys(TWENTY_WORDS);
+        for (int id = 0; id < 4; id++) {
+            x.train(id, id);
         }
         return x;
     }
