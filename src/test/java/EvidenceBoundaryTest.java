@@ -155,6 +155,24 @@ public final class EvidenceBoundaryTest {
         dueCompare("less by less than a ten thousand millionth", x, -1);
     }
 
+    /** 3.6 parts in 10^17: two doubles that stand next to each other just below 1 are further apart. */
+    private static void noNearnessCountsAsEqual() {
+        String ofClass0 = "a".repeat(30) + "b".repeat(40) + "f".repeat(10) + "g".repeat(18) + "hi";
+        String ofClass1 = "a".repeat(28) + "c".repeat(6) + "d".repeat(16) + "f".repeat(9) + "g".repeat(12)
+                + "j".repeat(12) + "klmnopqrs";
+        for (int turned = 0; turned < 2; turned++) {
+            Counted x = new Counted(2);
+            trainLetters(x, 0, 0, turned == 0 ? ofClass0 : ofClass1);
+            trainLetters(x, 5, 1, turned == 0 ? ofClass1 : ofClass0);
+            x.type("a a a a a a b b b b c c c d d d z z f g");
+            int greater = turned == 0 ? 1 : 0;
+            dueCompare("31^6 * 41^4 * 11 * 19 / 119^20 against 29^6 * 7^3 * 17^3 * 10 * 13 / 111^20", x,
+                    turned == 0 ? -1 : 1);
+            dueOrder("the greater one first", x, greater, 1 - greater);
+            due("classify()", x.classify(), greater);
+        }
+    }
+
     /** The letters are words, twenty of them a document, and the rest the last one. */
     private static void trainLetters(Counted x, int firstId, int label, String letters) {
         int id = firstId;
@@ -544,6 +562,7 @@ public final class EvidenceBoundaryTest {
         test("Terms, CHANCE: V of all documents in force", EvidenceBoundaryTest::theVocabularyOfAllClassesCounts);
         test("Terms, CHANCE: an exact fraction, equal ones", EvidenceBoundaryTest::equalChancesOfOtherFactorsAreEqual);
         test("Terms, CHANCE: an exact fraction, near ones", EvidenceBoundaryTest::nearlyEqualChancesAreNotEqual);
+        test("Terms, CHANCE: an exact fraction, no nearness", EvidenceBoundaryTest::noNearnessCountsAsEqual);
         test("Terms, CHANCE: an exact fraction, the greatest", EvidenceBoundaryTest::theGreatestProductsAreExact);
         test("Terms, CHANCE: for each word of the text, of twenty", EvidenceBoundaryTest::eachOfTwentyWordsIsAFactor);
         test("Terms, CHANCE: an exact fraction, twenty words", EvidenceBoundaryTest::twentyWordsThatTieAreEqual);
