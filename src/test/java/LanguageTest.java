@@ -28,8 +28,8 @@ import javax.tools.StandardJavaFileManager;
 import javax.tools.ToolProvider;
 
 /**
- * The program keeps to those rules of LANGUAGE.md that its tree can tell. Where a rule allows more than the program uses,
- * only what it uses is let through: what comes anew is to be held against the rule first.
+ * The program keeps to those rules of LANGUAGE.md that its tree can tell. Where a rule allows more than the program
+ * uses, only what it uses is let through: what comes anew is to be held against the rule first.
  */
 public final class LanguageTest {
     private static final String PROGRAM = "src/main/java/WordEvidence.java";
